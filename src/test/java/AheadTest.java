@@ -13,7 +13,7 @@ public final class AheadTest {
         Check.end();
     }
 
-    /** Rows, a rail, a tip, walls that fall on people by and by, a rule. */
+    /** Rows, a rail, a tip, walls that fall on people by and by (three at once on day 23), a rule. */
     private static RubbleCity busy() {
         RubbleCity x = new RubbleCity();
         x.ruin(44, 3, 500);
@@ -26,12 +26,12 @@ public final class AheadTest {
         x.wall(54, 2, 9);
         x.wall(45, 1, 30);
         x.wall(45, 1, 30);
-        x.wall(47, 3, 30);
+        x.wall(47, 3, 54);
         x.tip(34);
         Check.row(x, 0, 44, 34, 0, 1);
         Check.row(x, 1, 45, 44, 2);
         Check.rail(x, 0, 1, 46, 45);
-        x.weather(4, 2);
+        x.weather(9, 2);
         Check.rule(x, "work 9 if worked<40;work 3;card 2 if hurt>0;card 1;");
         return x;
     }
@@ -157,10 +157,11 @@ public final class AheadTest {
         Check.due("something changed", Check.all(x).equals(then) ? 1 : 0, 0);
         Check.due("back", x.back(), 3);
         Check.due("as it was", Check.all(x).equals(then) ? 1 : 0, 1);
-        Check.due("weather as it was", x.weather(4, 2), 42);
+        Check.due("weather as it was", x.weather(9, 2), 92);
         x.run(9);
         Check.due("back again", x.back(), 3);
         Check.due("as it was", Check.all(x).equals(then) ? 1 : 0, 1);
+        railAndDeath();
         // What comes behind an image is as without it.
         RubbleCity y = busy();
         y.room(0, 70, 1, 5);
@@ -174,8 +175,8 @@ public final class AheadTest {
         RubbleCity z = busy();
         z.ruin(46, 2, 100);
         z.image();
-        z.run(20);
-        z.pull(4);
+        z.run(30);
+        Check.due("one died", z.count(8) > 0 ? 1 : 0, 1);
         int[] counts = {0, 690, 0, 0, 0, 0, 0, 4, 0};
         z.back();
         for (int what = 0; what < counts.length; what++) {
@@ -188,7 +189,7 @@ public final class AheadTest {
                 Check.due("person told " + what, z.personTold(p, what), 0);
             }
         }
-        int[] stands = {20, 9, 30, 30, 30};
+        int[] stands = {20, 9, 30, 30, 54};
         for (int k = 0; k < 5; k++) {
             Check.due("stands", z.wallTold(k, 0), 1);
             Check.due("stands", z.wallTold(k, 1), stands[k]);
@@ -197,6 +198,35 @@ public final class AheadTest {
         Check.due("where row 0 stuck", z.rowTold(0, 2), 0);
         Check.due("where row 1 stuck", z.rowTold(1, 2), 0);
         Check.due("what rail 0 did", z.railTold(0, 1), 0);
+    }
+
+    private static void railAndDeath() {
+        RubbleCity x = new RubbleCity();
+        x.ruin(44, 2, 100);
+        x.person(9, 5, 30, 1);
+        Check.rail(x, 0, 1, 44, 45);
+        x.image();
+        x.run(1);
+        for (int i = 0; i < 3; i++) {
+            x.pull(x.wall(8, 1, 9));
+        }
+        Check.due("rail", x.railTold(0, 1), 60);
+        Check.due("dead", x.personTold(0, 4), 1);
+        x.back();
+        Check.due("rail as it was", x.railTold(0, 1), 0);
+        Check.due("not dead", x.personTold(0, 4), 0);
+        Check.due("not hurt", x.personTold(0, 1), 0);
+        x.run(1);
+        x.image();
+        for (int i = 0; i < 3; i++) {
+            x.pull(x.wall(8, 1, 9));
+        }
+        x.image();
+        x.run(1);
+        Check.due("rail", x.railTold(0, 1), 40);
+        x.back();
+        Check.due("rail as it was", x.railTold(0, 1), 60);
+        Check.due("dead as it was", x.personTold(0, 4), 1);
     }
 
     private static void whatAnImageLeaves() {

@@ -175,10 +175,12 @@ public final class CityTest {
         x.pull(x.wall(2, 3, 5));
         Check.due("loads of a wall on the tip", x.cellTold(1, 0), 27);
         Check.due("tipped by a wall", x.count(2), 24);
+        x.run(1);
+        Check.due("tipped more", x.count(2), 48);
         x.tip(-1);
         x.run(1);
-        Check.due("not tipped any more", x.count(2), 24);
-        Check.due("loads where the tip was", x.cellTold(1, 0), 27 + 24);
+        Check.due("not tipped any more", x.count(2), 48);
+        Check.due("loads where the tip was", x.cellTold(1, 0), 27 + 12);
     }
 
     private static RubbleCity cityOfTen() {
@@ -262,24 +264,30 @@ public final class CityTest {
         Check.due("iron", x.count(6), 10);
         Check.due("worked", x.personTold(0, 2), 8);
         Check.due("worked", x.personTold(1, 2), 8);
+        x.run(1);
+        Check.due("more bricks", x.count(4), 80);
+        Check.due("more beams", x.count(5), 4);
+        Check.due("more iron", x.count(6), 20);
+        Check.due("more dust", x.count(3), 16);
+        Check.due("more loads beside", x.cellTold(12, 0), 32);
         // Without a RUIN nothing is kept, but there is dust; fewer than ten give neither.
         Check.row(x, 2, 12, 13, 0);
         x.run(1);
-        Check.due("as many as there are", x.rowTold(2, 1), 16);
-        Check.due("dust without a ruin", x.count(3), 12);
-        Check.due("no bricks without a ruin", x.count(4), 40);
-        Check.due("others go on", x.cellTold(13, 0), 12);
-        Check.due("not a hand", x.personTold(1, 2), 8);
+        Check.due("as many as there are", x.rowTold(2, 1), 32);
+        Check.due("dust without a ruin", x.count(3), 28);
+        Check.due("no bricks without a ruin", x.count(4), 80);
+        Check.due("others go on", x.cellTold(13, 0), 20);
+        Check.due("not a hand", x.personTold(1, 2), 16);
         x.run(1);
         Check.due("nothing is left", x.rowTold(2, 1), 0);
-        Check.due("nothing to work at", x.personTold(0, 2), 16);
+        Check.due("nothing to work at", x.personTold(0, 2), 24);
         Check.due("stuck all the same", x.rowTold(2, 2), 0);
         x.ruin(12, 1, 9);
         x.run(1);
-        Check.due("nine give no dust", x.count(3), 12);
-        Check.due("nine give no bricks", x.count(4), 40);
-        Check.due("nine come all", x.cellTold(13, 0), 21);
-        Check.due("worked at nine", x.personTold(0, 2), 24);
+        Check.due("nine give no dust", x.count(3), 28);
+        Check.due("nine give no bricks", x.count(4), 80);
+        Check.due("nine come all", x.cellTold(13, 0), 29);
+        Check.due("worked at nine", x.personTold(0, 2), 32);
     }
 
     private static void rail() {
@@ -301,6 +309,7 @@ public final class CityTest {
         Check.due("no cell", Check.rail(x, 0, 1, 0, -1), BAD);
         Check.due("no cell", Check.rail(x, 0, 1, 100, 99), BAD);
         Check.due("no cell", Check.rail(x, 0, 1, 95, 105), BAD);
+        Check.due("no cell at first", Check.rail(x, 0, 1, 100, 90), BAD);
         Check.due("over the edge", Check.rail(x, 0, 1, 9, 10), BAD);
         Check.due("its cells after refusals", x.railTold(0, 0), 12);
         Check.due("none", Check.rail(x, 0, 20), 0);

@@ -72,7 +72,13 @@ public final class LookingTest {
         Check.due("at home when it stays", x.personTold(0, 6), 7);
         Check.rule(x, "work 0;");
         Check.due("at home without work", x.personTold(0, 6), 7);
+        x.person(7, 1, 30, 1);
+        Check.row(x, 2, 44, 45, 0, 1);
+        Check.rule(x, "work 1;");
+        Check.due("passes one", x.personTold(1, 5), 1);
+        Check.due("at work for one", x.personTold(1, 6), 44);
         x.force(-1);
+        x.moves(1, 0);
         x.pull(x.wall(43, 1, 9));
         Check.due("hurt", x.personTold(0, 1), 3);
         Check.due("passes less", x.personTold(0, 5), 16);

@@ -150,6 +150,9 @@ public final class LotsTest {
         y.run(1);
         kill(y, 1);
         Check.due("as it is now", y.heirs(0, 0, 0), 8);
+        y.paper(1, 2, 0);
+        kill(y, 2);
+        Check.due("the first person too", y.heirs(1, 0, 1), 1 + 16);
         RubbleCity z = new RubbleCity();
         for (int p = 0; p < 24; p++) {
             z.person(p, 1, 1, 4);

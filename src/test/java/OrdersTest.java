@@ -61,10 +61,17 @@ public final class OrdersTest {
             Check.due(orders[o], Check.order(x, orders[o]), o);
             Check.due("the tape is empty", x.count(11), 0);
         }
+        Check.due("a fault", Check.order(x, "card 7;stay 9;work 1 if age<1&kin"), -133);
+        Check.due("a fault", Check.order(x, "work 5 if age<9&walk"), -117);
         Check.due("a fault", Check.order(x, "walk"), -101);
         Check.due("the tape is empty behind a fault", x.count(11), 0);
         Check.due("orders", x.count(9), 5);
         Check.due("the sixth", Check.order(x, "work 5;"), 5);
+        x.person(0, 1, 50, 1);
+        x.force(5);
+        Check.due("nothing of a fault stays", x.says(0, 0), 5);
+        Check.due("nothing of a fault stays", x.says(0, 1), 0);
+        Check.due("nothing of a fault stays", x.says(0, 2), 0);
         Check.due("orders", x.count(9), 6);
         Check.feed(x, "walk");
         Check.due("full ahead of the fault", x.order(), FULL);

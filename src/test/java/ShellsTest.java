@@ -110,6 +110,9 @@ public final class ShellsTest {
         Check.due("1/7 + 1/8 + 1/9", x.likely(0, 1), 504);
         Check.due("1/8 + 1/9", x.likely(10, 0), 17);
         Check.due("1/8 + 1/9", x.likely(10, 1), 72);
+        x.raid(0, 1, 10, 1);
+        Check.due("and 1/10", x.likely(0, 0), 1207);
+        Check.due("and 1/10", x.likely(0, 1), 2520);
         x.raid(20, 1, 3, 6);
         Check.due("6/3", x.likely(21, 0), 2);
         Check.due("6/3", x.likely(21, 1), 1);

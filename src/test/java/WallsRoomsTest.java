@@ -84,6 +84,13 @@ public final class WallsRoomsTest {
         x.pull(1);
         Check.due("refused", Check.pulls(x, 1), BAD);
         order(x, 2, 1, 0);
+        RubbleCity y = new RubbleCity();
+        for (int k = 0; k < 6; k++) {
+            y.wall(k, 0, 5);
+        }
+        y.weather(0, 2);
+        Check.due("late but for the first", Check.pulls(y, 5, 4, 3, 2, 1, 0), 5);
+        order(y, 5, 4, 3, 2, 1, 0);
     }
 
     private static void order(RubbleCity x, int... walls) {
