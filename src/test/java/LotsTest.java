@@ -159,5 +159,18 @@ public final class LotsTest {
         }
         z.paper(0, 23, 0);
         Check.due("the last person", z.heirs(0, 0, 0), 1 << 23);
+        for (int i = 0; i < 3; i++) {
+            z.pull(z.wall(33, 2, 50));
+            z.pull(z.wall(24, 3, 50));
+        }
+        Check.due("dead", z.personTold(23, 4), 1);
+        Check.due("all others", z.heirs(0, 0, 0), (1 << 23) - 1);
+        // Kin 0 is a kin as any other, not that of people who never came.
+        RubbleCity u = new RubbleCity();
+        u.person(0, 1, 1, 0);
+        u.person(10, 1, 1, 0);
+        u.paper(0, 0, 0);
+        kill(u, 0);
+        Check.due("kin 0", u.heirs(0, 0, 0), 2);
     }
 }
