@@ -1,4 +1,4 @@
-/** The bounds that "Terms" and part 1, THE CITY, name: cells and sides, numbers of each sort, what there is at first. */
+/** The bounds that "Terms" and part 1, THE CITY, name: cells, sides, how many of each sort, what is at first. */
 public final class CityBoundsTest {
     private static final int NONE = -1, BAD = -2, STATE = -3, FULL = -4;
 

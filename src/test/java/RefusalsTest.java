@@ -248,12 +248,14 @@ public final class RefusalsTest {
 
     private static void orders() {
         int[] bytes = {0, -1, MOST};
-        Ladder.Due feed = (x, a) -> !Ladder.in(a[1], 1, 8) ? BAD : x.count(11) + a[1] > 160 ? FULL : x.count(11) + a[1];
+        Ladder.Due feed = (x, a) -> !Ladder.in(a[1], 1, 8) ? BAD
+                : x.count(11) + a[1] > 160 ? FULL : x.count(11) + a[1];
         Ladder.climb("feed", SOME, feed, bytes, Ladder.bounds(1, 8));
         Ladder.climb("feed", ALL, feed, bytes, Ladder.bounds(1, 8));
         for (int left = 1; left <= 9; left++) {
             int size = 160 - left;
-            Ladder.climb("feed", () -> tapeOf(size), feed, bytes, new int[] {1, 2, 3, 4, 5, 6, 7, 8, 0, 9, LEAST, MOST});
+            int[] numbers = {1, 2, 3, 4, 5, 6, 7, 8, 0, 9, LEAST, MOST};
+            Ladder.climb("feed", () -> tapeOf(size), feed, bytes, numbers);
         }
         Ladder.refused(full(), "order", FULL);
         RubbleCity x = full();
@@ -310,12 +312,14 @@ public final class RefusalsTest {
             Ladder.look("railTold", city, (x, a) -> !Ladder.in(a[0], 0, 2) ? NONE : !Ladder.in(a[1], 0, 1) ? BAD : 0,
                     Ladder.bounds(0, 2), Ladder.bounds(0, 1));
             Ladder.look("wallTold", city, (x, a) -> !Ladder.in(a[0], 0, x.count(13) - 1) ? NONE
-                    : !Ladder.in(a[1], 0, 2) ? BAD : 0, new int[] {0, 4, 5, 15, 16, -1, LEAST, MOST}, Ladder.bounds(0, 2));
+                    : !Ladder.in(a[1], 0, 2) ? BAD : 0,
+                    new int[] {0, 4, 5, 15, 16, -1, LEAST, MOST}, Ladder.bounds(0, 2));
             Ladder.look("count", city, (x, a) -> !Ladder.in(a[0], 0, 13) ? BAD : 0, Ladder.bounds(0, 13));
             Ladder.look("pullTold", city, (x, a) -> !Ladder.in(a[0], 0, 1) ? NONE : 0, Ladder.bounds(0, 1));
             Ladder.look("mendTold", city, (x, a) -> 0);
             Ladder.look("roomTold", city, (x, a) -> !Ladder.in(a[0], 0, x.count(12) - 1) ? NONE
-                    : !Ladder.in(a[1], 0, 2) ? BAD : 0, new int[] {0, 3, 4, 11, 12, -1, LEAST, MOST}, Ladder.bounds(0, 2));
+                    : !Ladder.in(a[1], 0, 2) ? BAD : 0,
+                    new int[] {0, 3, 4, 11, 12, -1, LEAST, MOST}, Ladder.bounds(0, 2));
             Ladder.look("likely", city, (x, a) -> !isCell(a[0]) || !Ladder.in(a[1], 0, 1) ? RubbleCity.NO : 0,
                     CELLS, Ladder.bounds(0, 1));
             Ladder.look("next", city, (x, a) -> 0);
@@ -341,7 +345,8 @@ public final class RefusalsTest {
             Check.write(x, 0, 1, 0);
             return x;
         };
-        Ladder.climb("pulls", walls, (x, a) -> !isSheet(a[0]) ? NONE : a[0] == 3 ? NOTHING : a[0] > 0 ? BAD : 0, SOME_SHEETS);
+        Ladder.climb("pulls", walls, (x, a) -> !isSheet(a[0]) ? NONE : a[0] == 3 ? NOTHING : a[0] > 0 ? BAD : 0,
+                SOME_SHEETS);
         int[][] noPulls = {{}, {-1}, {5}, {0, 5}, {LEAST}, {MOST}, {2}, {0, 2}, {4, 0}, {0, 0}, {0, 1, 0}, {1, 0, 0}};
         for (int[] numbers : noPulls) {
             RubbleCity x = some();
@@ -404,8 +409,10 @@ public final class RefusalsTest {
         Ladder.look("owner", SOME, owner, lots, on, known);
         Ladder.climb("owner", SOME, owner, lots, on, known);
         Ladder.look("heirs", SOME, (x, a) -> Math.min(owner.answer(x, a), 0), lots, on, known);
-        Ladder.climb("heirs", SOME, (x, a) -> owner.answer(x, a) == 0 ? 1 : owner.answer(x, a) == 4 ? 3 : owner.answer(x, a),
-                lots, on, known);
+        Ladder.climb("heirs", SOME, (x, a) -> {
+            long p = owner.answer(x, a);
+            return p == 0 ? 1 : p == 4 ? 3 : p;
+        }, lots, on, known);
     }
 
     private static void ahead() {
@@ -450,7 +457,8 @@ public final class RefusalsTest {
         Ladder.climb("copy", bytes, (x, a) -> {
             int from = a[0] == 0 ? 4 : 3;
             int to = a[2] == 0 ? 4 : 3;
-            boolean within = a[4] >= 0 && a[1] >= 0 && a[3] >= 0 && (long) a[1] + a[4] <= from && (long) a[3] + a[4] <= to;
+            boolean within = a[4] >= 0 && a[1] >= 0 && a[3] >= 0
+                    && (long) a[1] + a[4] <= from && (long) a[3] + a[4] <= to;
             return within ? a[4] : OUTSIDE;
         }, new int[] {0, 1}, ends, new int[] {0, 1}, ends, ends);
     }
