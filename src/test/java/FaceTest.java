@@ -5,20 +5,29 @@ import java.lang.reflect.Method;
 import java.lang.reflect.Modifier;
 import java.nio.file.Files;
 import java.nio.file.Path;
+import java.util.ArrayList;
+import java.util.List;
+import java.util.Map;
 import java.util.Set;
+import java.util.TreeMap;
 import java.util.TreeSet;
 import java.util.regex.Matcher;
 import java.util.regex.Pattern;
 
-/** The public face is the document's, no more; and the words that LANGUAGE.md rules out do not stand in the file. */
+/** The public face is the document's, no more; and the file keeps to LANGUAGE.md as far as reading it can tell. */
 public final class FaceTest {
     private static final Path SOURCE = Path.of("src/main/java/RubbleCity.java");
     private static final Path DOCUMENT = Path.of("../shared/DOC.md");
+    private static final int MOST_LINES = 60;
+    private static final int MOST_DEPTH = 8;
+    private static final Pattern METHOD = Pattern.compile("( {4}| {8})(?! )(?:[\\w\\[\\]]+ )+(\\w+)\\(.*\\) \\{");
 
     public static void main(String[] args) throws IOException {
         face();
         members();
         words();
+        lengths();
+        depths();
         Check.end();
     }
 
@@ -69,6 +78,8 @@ public final class FaceTest {
             boolean isFace = Set.of("NONE", "BAD", "STATE", "FULL", "NO").contains(field.getName());
             int due = isFace ? Modifier.PUBLIC : Modifier.PRIVATE;
             Check.due(field.toString(), field.getModifiers() & (Modifier.PUBLIC | Modifier.PROTECTED | Modifier.PRIVATE), due);
+            boolean isStatic = Modifier.isStatic(field.getModifiers());
+            Check.due(field + " final", isStatic && !Modifier.isFinal(field.getModifiers()) ? 1 : 0, 0);
         }
         Constructor<?>[] made = RubbleCity.class.getDeclaredConstructors();
         Check.due("constructors", made.length, 1);
@@ -102,5 +113,60 @@ public final class FaceTest {
         while (imports.find()) {
             Check.due("import " + imports.group(1), imports.group(1).equals("java.util.Arrays") ? 1 : 0, 1);
         }
+    }
+
+    /** The lines of each method by its name; methods of one name in several classes are put together. */
+    private static Map<String, List<String>> methods() throws IOException {
+        Map<String, List<String>> bodies = new TreeMap<>();
+        String indent = null;
+        List<String> body = null;
+        for (String line : Files.readAllLines(SOURCE)) {
+            Matcher begins = METHOD.matcher(line);
+            if (indent == null && begins.matches()) {
+                indent = begins.group(1);
+                body = bodies.computeIfAbsent(begins.group(2), name -> new ArrayList<>());
+            } else if (line.equals(indent + "}")) {
+                indent = null;
+            } else if (indent != null) {
+                body.add(line);
+            }
+        }
+        return bodies;
+    }
+
+    private static void lengths() throws IOException {
+        Map<String, List<String>> bodies = methods();
+        Check.due("methods found", bodies.size() > 100 ? 1 : 0, 1);
+        bodies.forEach((name, body) -> Check.due(name + " is short", body.size() <= MOST_LINES ? 1 : 0, 1));
+    }
+
+    private static void depths() throws IOException {
+        Map<String, List<String>> bodies = methods();
+        Map<String, Set<String>> calls = new TreeMap<>();
+        for (String name : bodies.keySet()) {
+            Matcher called = Pattern.compile("(\\w+)\\(").matcher(String.join("\n", bodies.get(name)));
+            Set<String> all = new TreeSet<>();
+            while (called.find()) {
+                if (bodies.containsKey(called.group(1)) && !called.group(1).equals(name)) {
+                    all.add(called.group(1));
+                }
+            }
+            calls.put(name, all);
+        }
+        int deepest = 0;
+        for (String name : calls.keySet()) {
+            deepest = Math.max(deepest, depth(name, calls, 0));
+        }
+        // Below 5 the calls were not read at all.
+        Check.due("calls go deep " + deepest, deepest >= 5 && deepest <= MOST_DEPTH ? 1 : 0, 1);
+    }
+
+    private static int depth(String name, Map<String, Set<String>> calls, int above) {
+        int deepest = 0;
+        for (String called : calls.get(name)) {
+            // A ring of calls would go on for ever; this is deep enough to fail.
+            deepest = Math.max(deepest, above > MOST_DEPTH ? MOST_DEPTH : depth(called, calls, above + 1));
+        }
+        return deepest + 1;
     }
 }
